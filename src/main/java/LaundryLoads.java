@@ -647,8 +647,7 @@ public final class LaundryLoads {
         if (!hall.hasMachine(one) || what < ASK_SIZE || what > ASK_MARK) {
             return BAD;
         }
-        asks.traced = 0;
-        return asks.answer(hall, one, Asks.bodyFor(what, hall.kinds[one]), 0);
+        return asks.begin(hall, one, what);
     }
 
     public int trace(int i) {
@@ -879,7 +878,6 @@ public final class LaundryLoads {
 
         private void readFigures() {
             number = 0;
-            next = place;
             while (next < length && isFigure(next)) {
                 number = number * 10 + bytes[next] - '0';
                 next++;
@@ -1292,7 +1290,12 @@ public final class LaundryLoads {
         final int[] numbers = new int[MOST_TRACED];
         int traced;
 
-        static int bodyFor(int ask, int kind) {
+        int begin(Hall hall, int m, int ask) {
+            traced = 0;
+            return answer(hall, m, bodyFor(ask, hall.kinds[m]), 0);
+        }
+
+        private static int bodyFor(int ask, int kind) {
             int body = 0;
             int k = kind;
             for (int step = 0; step < NEAREST.length && k >= 0 && body == 0; step++) {
@@ -1302,7 +1305,7 @@ public final class LaundryLoads {
             return body;
         }
 
-        int answer(Hall hall, int m, int body, int depth) {
+        private int answer(Hall hall, int m, int body, int depth) {
             if (depth > MOST_DEEP) {
                 return 0;
             }

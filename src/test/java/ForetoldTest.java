@@ -2,6 +2,7 @@
 public final class ForetoldTest {
     private static final Check check = new Check();
     private static final String FIVE = "l2;w5,1;q9,0;g4,2;d9,1;s3,0;b4,6;b2,3;b9,50;b3,2;";
+    private static final String ALL_FIVE = "l5;g9,0;q9,1;s9,1;d9,0;q9,0;b6,0;b5,0;b8,0;b8,0;b6,0;";
     private static final String CHAIN = "l5;w9,0;w9,0;d9,0;b2,0;";
 
     public static void main(String[] args) {
@@ -10,6 +11,7 @@ public final class ForetoldTest {
         orders();
         needs();
         keeping();
+        keepingMany();
         filling();
         sharing();
         turns();
@@ -68,6 +70,10 @@ public final class ForetoldTest {
         check.due("washed behind 57", long61.when(3, 1), 57);
         check.due("first dry behind 61", long61.when(0, 2), Check.NONE);
         check.due("over of none", new LaundryLoads().over(), Check.STATE);
+        // the last one is washed at tick 54, and dry at tick 59
+        LaundryLoads just60 = Check.told("l5;d9,0;d9,1;w9,1;s9,0;s9,0;b5,0;b9,0;b9,0;b9,0;b8,0;b8,0;");
+        check.due("dry behind 60", just60.when(5, 2), 60);
+        check.due("over behind 60", just60.over(), 60);
     }
 
     private static void orders() {
@@ -104,6 +110,10 @@ public final class ForetoldTest {
         check.due("of none", new LaundryLoads().need(0), Check.STATE);
         x.ticks(17);
         check.due("all dry", x.need(1), 1);
+        LaundryLoads five = Check.told(ALL_FIVE);
+        check.due("over", five.over(), 15);
+        check.due("five at once", five.need(15), 5);
+        check.due("too few ticks", five.need(14), Check.NONE);
     }
 
     private static void keeping() {
@@ -128,6 +138,13 @@ public final class ForetoldTest {
         check.due("n 51", x.open(51, 0), Check.BAD);
         check.due("what 2", x.open(1, 2), Check.BAD);
         check.due("of none", new LaundryLoads().open(0, 2), Check.STATE);
+    }
+
+    private static void keepingMany() {
+        LaundryLoads five = Check.told(ALL_FIVE);
+        check.dues("all five", w -> five.open(15, w), 5, 31);
+        LaundryLoads four = Check.told("l5;q9,1;s9,1;d9,1;s9,1;g9,0;b4,0;b5,0;b2,0;b4,0;");
+        check.dues("four of five", w -> four.open(9, w), 4, 27);
     }
 
     private static void filling() {
@@ -280,6 +297,11 @@ public final class ForetoldTest {
         check.due("the other", x.restore(0), 1);
         check.due("machines", x.count(1), 3);
         check.due("power", x.stand(0), 5);
-        check.due("order of the other", x.order(9, 1), Check.NONE);
+        check.due("order of the other", x.order(9, -1), 4);
+        x.restore(1);
+        // load 1 dries ahead of load 0: late by 5, 6 and, load 3, 8
+        check.due("order of this one", x.order(9, -1), 19);
+        Check.tell(x, CHAIN);
+        check.due("order of what is told then", x.order(9, -1), 4);
     }
 }

@@ -23,7 +23,7 @@ public final class RowsTest {
     }
 
     private static void making() {
-        LaundryLoads x = new LaundryLoads();
+        LaundryLoads x = Check.told("l1;w9,5;b9,9;");
         check.due("row 0 items", x.row(0, 0, 0), 0);
         check.due("row 40 items", x.row(7, 2, 40), 40);
         check.due("count of rows", x.count(0), 2);
@@ -39,11 +39,14 @@ public final class RowsTest {
         x.row(2, 2, 2);
         x.set(2, 1, 77);
         check.due("found: as it was", x.row(2, 2, -3), Check.SIZE);
-        x.row(3, 2, 2);
-        check.due("copy of old", x.copy(2, 0, 3, 0, 2), 2);
+        check.due("as it was", stands(x, 2, 1, 77) ? 1 : 0, 1);
         check.due("anew", x.row(2, 2, 3), 3);
-        check.due("count stays", x.count(0), 4);
-        check.due("items are 0 again", x.copy(2, 1, 3, 1, 1), 1);
+        check.due("count stays", x.count(0), 3);
+        check.due("items are 0 again", stands(x, 2, 1, 0) ? 1 : 0, 1);
+        x.set(2, 0, 7);
+        x.drop(2);
+        x.row(2, 2, 1);
+        check.due("and behind a drop", stands(x, 2, 0, 0) ? 1 : 0, 1);
     }
 
     private static void setting() {
