@@ -1,10 +1,9 @@
 import java.lang.reflect.Method;
 import java.util.ArrayList;
-import java.util.Comparator;
 import java.util.List;
 import java.util.Random;
 
-/** Any arguments in any state: nothing is thrown, and what is refused or found changes nothing. */
+/** Any arguments in any state: nothing is thrown, and what is refused, found or only asked changes nothing. */
 public final class EdgesTest {
     private static final int[] ODD = {
         Integer.MIN_VALUE, Integer.MIN_VALUE + 1, -1000001, -2, -1, 0, 1, 2, 3, 4, 5, 6, 7, 8, 9, 10, 11, 12, 13, 20,
@@ -13,59 +12,50 @@ public final class EdgesTest {
     };
     private static final String[] TEXTS = {
         "l5;w9,5;q9,5;g9,5;d9,5;s9,5;b9,60;b9,60;b9,60;b9,60;b9,60;b9,60;", "l1;q1,0;b1,0;",
-        "l2;g6,1;d5,2;s7,0;w3,3;b6,4;b3,8;b5,2;b1,30;", "l1;d9,0;b1,0;", "l9;", ""
+        "l2;g6,1;d5,2;s7,0;w3,3;b6,4;b3,8;b5,2;b1,30;", "l1;d9,0;b1,0;", "l2;q9,0;s9,0;b1,0;b1,3;", "l9;", ""
     };
+    private static final List<String> ONLY_ASK = List.of("machine", "load", "lasts", "stand", "ahead", "inside", "all",
+        "when", "over", "order", "need", "open", "fills", "share", "byTurns", "who", "sizes", "breaks", "drawn", "kind",
+        "as", "trace", "count", "status", "fault");
     private static final Check check = new Check();
+    private static final Method[] FACE = Run.calls().values().toArray(new Method[0]);
 
-    public static void main(String[] args) throws Exception {
-        List<Method> calls = new ArrayList<>();
-        for (Method m : LaundryLoads.class.getDeclaredMethods()) {
-            if (java.lang.reflect.Modifier.isPublic(m.getModifiers())) {
-                calls.add(m);
-            }
-        }
-        calls.sort(Comparator.comparing(Method::getName));
-        for (int run = 0; run < 300; run++) {
-            go(new Random(run), calls);
+    public static void main(String[] args) {
+        for (int run = 0; run < 3000; run++) {
+            go(new Random(run));
         }
         check.end();
     }
 
-    private static void go(Random random, List<Method> calls) throws Exception {
-        LaundryLoads x = new LaundryLoads();
-        for (int i = 0; i < 200; i++) {
-            if (random.nextInt(20) == 0) {
-                Check.tell(x, TEXTS[random.nextInt(TEXTS.length)]);
-            }
-            Method call = calls.get(random.nextInt(calls.size()));
-            Object[] with = new Object[call.getParameterCount()];
-            for (int a = 0; a < with.length; a++) {
-                with[a] = random.nextInt(3) == 0 ? ODD[random.nextInt(ODD.length)] : random.nextInt(7);
-            }
-            String before = picture(x);
-            long answer = ((Number) call.invoke(x, with)).longValue();
-            boolean refused = answer <= Check.BAD && answer >= -1000015;
-            if (refused || foretells(call.getName())) {
-                check.due(call.getName() + " changes nothing", picture(x).equals(before) ? 1 : 0, 1);
+    private static void go(Random random) {
+        List<String> drawn = new ArrayList<>();
+        drawn.add("tell " + TEXTS[random.nextInt(TEXTS.length)]);
+        for (int i = random.nextInt(10); i > 0; i--) {
+            drawn.add(drawCall(random));
+        }
+        // once more at most: an object is used for 512 calls
+        if (random.nextInt(4) == 0) {
+            drawn.add(random.nextInt(drawn.size()) + 1, "tell " + TEXTS[random.nextInt(TEXTS.length)]);
+        }
+        String[] run = drawn.toArray(new String[0]);
+        Given given = new Given(check, run);
+        for (int i = 0; i < 4; i++) {
+            String call = drawCall(random);
+            long answer = new Run(run).call(call);
+            if (answer <= Check.BAD && answer >= Check.STORE) {
+                given.refuses(call, answer);
+            } else if (ONLY_ASK.contains(call.split(" ")[0])) {
+                given.changesNothing(call);
             }
         }
     }
 
-    private static boolean foretells(String call) {
-        return List.of("machine", "load", "lasts", "stand", "ahead", "inside", "all", "when", "over", "order", "need",
-            "open", "fills", "share", "byTurns", "who", "sizes", "breaks", "drawn", "image", "kind", "as", "trace",
-            "count", "status", "fault").contains(call);
-    }
-
-    private static String picture(LaundryLoads x) {
-        StringBuilder all = new StringBuilder();
-        for (int what = 0; what < 9; what++) {
-            all.append(x.count(what)).append(' ').append(x.stand(what)).append(' ');
-            for (int one = 0; one < 6; one++) {
-                all.append(x.machine(one, what)).append(' ').append(x.load(one, what)).append(' ');
-            }
-            all.append(x.trace(what)).append(' ').append(x.kind(what)).append(' ');
+    private static String drawCall(Random random) {
+        Method call = FACE[random.nextInt(FACE.length)];
+        StringBuilder text = new StringBuilder(call.getName());
+        for (int a = 0; a < call.getParameterCount(); a++) {
+            text.append(' ').append(random.nextInt(3) == 0 ? ODD[random.nextInt(ODD.length)] : random.nextInt(7));
         }
-        return all.append(x.fault()).toString();
+        return text.toString();
     }
 }

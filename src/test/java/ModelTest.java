@@ -6,6 +6,7 @@ public final class ModelTest {
     private final Random random;
     private final int run;
     private final LaundryLoads x = new LaundryLoads();
+    private int calls;
     private final PlainModel y = new PlainModel();
 
     private ModelTest(int run) {
@@ -14,7 +15,7 @@ public final class ModelTest {
     }
 
     public static void main(String[] args) {
-        for (int run = 0; run < 400; run++) {
+        for (int run = 0; run < 500; run++) {
             new ModelTest(run).go();
         }
         check.end();
@@ -51,17 +52,20 @@ public final class ModelTest {
             shop.loads.add(one);
             text.append('b').append(one.size).append(',').append(one.due).append(';');
         }
+        calls += text.length();
         due("tell " + text, Check.tell(x, text.toString()), machines);
         y.told(shop);
     }
 
     private void due(String call, long got, long want) {
+        calls++;
         check.due("run " + run + ": " + call, got, want);
     }
 
     private void go() {
         tell();
-        for (int i = 0; i < 60; i++) {
+        // an object is used for 512 calls, and no step makes more than 100
+        while (calls < Run.MOST_CALLS - 100) {
             int c = random.nextInt(32);
             if (c == 31 && random.nextInt(8) == 0) {
                 tell();
@@ -187,6 +191,7 @@ public final class ModelTest {
             row[i] = seen.many("wet") + 10 * seen.many("dry");
         }
         Check.fill(x, 3, row);
+        calls += n + 2;
         for (int which = 0; which < 3; which++) {
             due("who " + m + " " + which, x.who(m, which, 3, 0, n), y.who(m, which, row));
         }
