@@ -86,10 +86,25 @@ public final class LanguageTest {
         check.due("method references", count(code, "::"), 0);
         check.due("names that end in Exact", count(code, "Exact\\b"), 0);
         check.due("loops without a bound", count(code, "for \\(;|while \\(true"), 0);
-        check.due("System", count(code, "System\\.(?!arraycopy)"), 0);
+        library(code);
         check.due("signs beyond 127", count(source, "[^\\x00-\\x7f]"), 0);
         check.due("classes, at most 12", count(code, "\\bclass\\b") <= 12 ? 1 : 0, 1);
         longMethods(source.split("\n", -1));
+    }
+
+    /** No class but its own and these is named, and of these only what is listed. */
+    private static void library(String code) {
+        Matcher names = Pattern.compile("\\b[A-Z]\\w*[a-z]\\w*\\b").matcher(code);
+        Set<String> own = new TreeSet<>(Set.of("LaundryLoads", "Math", "Integer", "System"));
+        for (Class<?> inner : LaundryLoads.class.getDeclaredClasses()) {
+            own.add(inner.getSimpleName());
+        }
+        while (names.find()) {
+            check.due("a class of its own, or listed: " + names.group(), own.contains(names.group()) ? 1 : 0, 1);
+        }
+        check.due("System", count(code, "\\bSystem\\.(?!arraycopy\\b)"), 0);
+        check.due("Math", count(code, "\\bMath\\.(?!(max|min)\\b)"), 0);
+        check.due("Integer", count(code, "\\bInteger\\b(?!\\.bitCount\\b)"), 0);
     }
 
     private static int count(String text, String pattern) {
